@@ -359,7 +359,7 @@ public final class TraceProver {
         }
 
         boolean areBrokenIn(Table table, int r) {
-            return r < ROWS - 1 && isStepBroken(table, r) || isBoundBroken(table, r);
+            return (r < ROWS - 1 && isStepBroken(table, r)) || isBoundBroken(table, r);
         }
 
         private boolean isStepBroken(Table table, int r) {

@@ -178,10 +178,11 @@ public final class RandomRunsTest {
         int kind = random.nextInt(4);
         if (kind == 0 && model.hasProof() && calls < CALLS - 400) {
             int stage = random.nextInt(6) - 2;
-            int index = random.nextInt(32);
+            int first = random.nextInt(32);
+            int step = random.nextBoolean() ? 1 : 32;
             int[] row = model.forge((seen, values) -> {
-                if (seen == stage) {
-                    values[index % values.length] = number();
+                for (int i = first % values.length; seen == stage && i < values.length; i += step) {
+                    values[i] = number();
                 }
             });
             for (int i = 0; i < row.length; i++) {
