@@ -7,9 +7,11 @@ public final class ProofTest {
         refusals();
         refusalsKeepTheProof();
         provingAgain();
+        provingOtherThings();
         emptyConstraintCounts();
         highestDegree();
         placesOfTheRow();
+        refusedAlters();
         altering();
         CHECK.end();
     }
@@ -47,8 +49,9 @@ public final class ProofTest {
 
     private static void refusalsKeepTheProof() {
         TraceProver x = Samples.provedFibonacci();
+        int[] row = Samples.fibonacciProof();
         x.alter(50, -77);
-        int[] row = Samples.proofOf(x);
+        row[50] = -77;
         x.set(0, 5, 0);
         CHECK.due("prove() with a wrong row", x.prove(), -14);
         dueRow("after a refusal", x, row);
@@ -59,12 +62,16 @@ public final class ProofTest {
 
     private static void provingAgain() {
         TraceProver x = Samples.provedFibonacci();
-        int[] row = Samples.proofOf(x);
+        int[] row = Samples.fibonacciProof();
         for (int i = 0; i < row.length; i++) {
             x.alter(i, 12345 + i);
         }
         CHECK.due("prove() again", x.prove(), 0);
         dueRow("made again", x, row);
+    }
+
+    private static void provingOtherThings() {
+        TraceProver x = Samples.provedFibonacci();
         for (int r = 0; r < 8; r++) {
             x.set(0, r, 0);
             x.set(1, r, 0);
@@ -130,13 +137,17 @@ public final class ProofTest {
         }
     }
 
-    private static void altering() {
+    private static void refusedAlters() {
         TraceProver x = Samples.provedFibonacci();
-        int[] row = Samples.proofOf(x);
         for (int bad : new int[] {-1, 179, 180, Integer.MIN_VALUE, Integer.MAX_VALUE}) {
             CHECK.due("alter(" + bad + ")", x.alter(bad, 1), false);
         }
-        dueRow("after refused alters", x, row);
+        dueRow("after refused alters", x, Samples.fibonacciProof());
+    }
+
+    private static void altering() {
+        TraceProver x = Samples.provedFibonacci();
+        int[] row = Samples.fibonacciProof();
         int[] values = {Integer.MIN_VALUE, Integer.MAX_VALUE, -1, 0, 12289};
         for (int i = 0; i < row.length; i++) {
             row[i] = values[i % values.length];

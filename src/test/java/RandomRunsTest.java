@@ -31,7 +31,8 @@ public final class RandomRunsTest {
     }
 
     private void go() {
-        while (calls < CALLS - 100) {
+        // The 179 calls at the end and the longest step before them stay within the document's 512.
+        while (calls < CALLS - 250) {
             int kind = random.nextInt(10);
             if (kind < 3) {
                 keepableRules();

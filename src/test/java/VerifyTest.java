@@ -67,39 +67,42 @@ public final class VerifyTest {
     }
 
     private static void everyPlaceAltered() {
-        TraceProver x = Samples.provedFibonacci();
-        int[] row = Samples.proofOf(x);
+        int[] row = Samples.fibonacciProof();
         for (int i = 5; i < row.length; i++) {
+            TraceProver x = Samples.provedFibonacci();
             x.alter(i, row[i] == 4321 ? 4322 : 4321);
             CHECK.due("int " + i + " altered", x.verify(), codeOfPlace(i));
             duePositions("int " + i + " altered", x, 8, 5, 4);
             x.alter(i, row[i]);
+            CHECK.due("int " + i + " as it was", x.verify(), 0);
         }
-        CHECK.due("all as it was", x.verify(), 0);
         for (int i = 0; i < 5; i++) {
-            x.alter(i, row[i] + 1);
+            TraceProver x = Samples.provedFibonacci();
+            x.alter(i, (row[i] + 1) % Model.P);
             CHECK.due("a root or the rest altered", x.verify() > 1, true);
-            x.alter(i, row[i]);
         }
     }
 
     private static void everyPlaceOutOfTheField() {
-        TraceProver x = Samples.provedFibonacci();
-        int[] row = Samples.proofOf(x);
-        for (int i = 4; i < row.length; i++) {
+        for (int i = 4; i < Model.LENGTH; i++) {
+            TraceProver x = Samples.provedFibonacci();
             for (int v : new int[] {-1, 12289, Integer.MIN_VALUE, Integer.MAX_VALUE}) {
                 x.alter(i, v);
-                int code = x.verify();
-                CHECK.due("int " + i + " becomes " + v, code, isValue(i) ? 1 : codeOfPlace(i));
+                CHECK.due("int " + i + " becomes " + v, x.verify(), isValue(i) ? 1 : codeOfPlace(i));
                 CHECK.due("its positions", x.position(0), isValue(i) ? TraceProver.NONE : 8);
             }
             x.alter(i, 12288);
             CHECK.due("int " + i + " becomes 12288", x.verify() == 1, false);
             x.alter(i, 0);
             CHECK.due("int " + i + " becomes 0", x.verify() == 1, false);
-            x.alter(i, row[i]);
         }
-        x.alter(5, 1);
+        for (int i = 0; i < 4; i++) {
+            TraceProver x = Samples.provedFibonacci();
+            x.alter(i, -1);
+            CHECK.due("a root may be any int", x.verify() > 1, true);
+        }
+        TraceProver x = Samples.provedFibonacci();
+        x.alter(7, 1);
         x.alter(175, 12289);
         CHECK.due("a bad path first, a number out of the field last", x.verify(), 1);
     }
