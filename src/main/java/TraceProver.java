@@ -139,12 +139,10 @@ public final class TraceProver {
     }
 
     private static int mix(int left, int right) {
-        return stir(stir(40503, left), right);
-    }
-
-    private static int stir(int m, int n) {
-        int product = (m ^ n) * 16777619;
-        return product ^ (product >>> 15);
+        int m = (40503 ^ left) * 16777619;
+        m = m ^ (m >>> 15);
+        m = (m ^ right) * 16777619;
+        return m ^ (m >>> 15);
     }
 
     /** The arithmetic of the field; every argument is a number of the field. */

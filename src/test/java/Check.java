@@ -50,6 +50,18 @@ final class Check {
         duePositions(when, x, TraceProver.NONE, TraceProver.NONE, TraceProver.NONE);
     }
 
+    /** Runs the tests one by one: what one of them throws is a wrong answer of its sentence, and the next one runs. */
+    void run(Runnable... tests) {
+        for (Runnable test : tests) {
+            try {
+                test.run();
+            } catch (RuntimeException thrown) {
+                wrong++;
+                System.out.println(sentence + "threw " + thrown + " at " + thrown.getStackTrace()[0]);
+            }
+        }
+    }
+
     boolean isClean() {
         return wrong == 0;
     }

@@ -3,22 +3,23 @@ public final class ProofTest {
     private static final Check CHECK = new Check();
 
     public static void main(String[] args) {
-        proveKnownProofs();
-        proveAgain();
-        proveOtherThings();
-        proveByEachKindOfRules();
-        proveTheHighestDegree();
-        proveWithoutRules();
-        proveWithAWrongRow();
-        proveWithSeveralWrongRows();
-        refusedProveKeepsTheProof();
-        refusedProveMakesNoProof();
-        proofIsTheRow();
-        proofWhereThereIsNone();
-        proofOfNoPlace();
-        alterChangesOneInt();
-        alterWhereThereIsNoProof();
-        alterOfNoPlace();
+        CHECK.run(
+            ProofTest::proveKnownProofs,
+            ProofTest::proveAgain,
+            ProofTest::proveOtherThings,
+            ProofTest::proveByEachKindOfRules,
+            ProofTest::proveTheHighestDegree,
+            ProofTest::proveWithoutRules,
+            ProofTest::proveWithAWrongRow,
+            ProofTest::proveWithSeveralWrongRows,
+            ProofTest::refusedProveKeepsTheProof,
+            ProofTest::refusedProveMakesNoProof,
+            ProofTest::proofIsTheRow,
+            ProofTest::proofWhereThereIsNone,
+            ProofTest::proofOfNoPlace,
+            ProofTest::alterChangesOneInt,
+            ProofTest::alterWhereThereIsNoProof,
+            ProofTest::alterOfNoPlace);
         CHECK.end();
     }
 
@@ -52,16 +53,16 @@ public final class ProofTest {
     private static void proveOtherThings() {
         CHECK.sentence("Promise 9", "Makes the proof from rules and table (of other ones than before)");
         TraceProver x = Samples.provedFibonacci();
-        for (int r = 0; r < 8; r++) {
-            x.set(0, r, 0);
-            x.set(1, r, 0);
-        }
         x.clear();
-        x.term(1, 5, 3, 2);
-        CHECK.due("prove()", x.prove(), 0);
         TraceProver fresh = new TraceProver();
-        fresh.term(1, 5, 3, 2);
-        fresh.prove();
+        for (TraceProver each : new TraceProver[] {x, fresh}) {
+            for (int r = 0; r < 8; r++) {
+                each.set(0, r, 0);
+                each.set(1, r, 12288 - r);
+            }
+            each.term(1, 5, 3, 2);
+            CHECK.due("prove()", each.prove(), 0);
+        }
         CHECK.dueProof("as on a new object", x, Samples.proofOf(fresh));
     }
 

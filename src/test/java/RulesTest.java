@@ -5,27 +5,28 @@ public final class RulesTest {
     private static final int[][] SIX_TERMS = {{0, 0, 0}, {12288, 4, 4}, {1, 0, 0}, {12288, 0, 4}, {12288, 0, 0}, {0, 4, 0}};
 
     public static void main(String[] args) {
-        newObjectHasNoRules();
-        newObjectHasNoProof();
-        newObjectsAreApart();
-        termsAreAppended();
-        termOfNoConstraint();
-        termWithKOutside();
-        termWithALetterOutside();
-        termBeyondTheSixth();
-        badTermBeyondTheSixth();
-        boundsAreAppended();
-        boundOfNoColumn();
-        boundOfNoRow();
-        boundWithVOutside();
-        boundBeyondTheFourth();
-        badBoundBeyondTheFourth();
-        clearLeavesNoRules();
-        clearOfFullRulesMakesRoom();
-        clearOfNoRules();
-        clearKeepsTheTable();
-        clearKeepsTheProof();
-        clearMakesNoProof();
+        CHECK.run(
+            RulesTest::newObjectHasNoRules,
+            RulesTest::newObjectHasNoProof,
+            RulesTest::newObjectsAreApart,
+            RulesTest::termsAreAppended,
+            RulesTest::termOfNoConstraint,
+            RulesTest::termWithKOutside,
+            RulesTest::termWithALetterOutside,
+            RulesTest::termBeyondTheSixth,
+            RulesTest::badTermBeyondTheSixth,
+            RulesTest::boundsAreAppended,
+            RulesTest::boundOfNoColumn,
+            RulesTest::boundOfNoRow,
+            RulesTest::boundWithVOutside,
+            RulesTest::boundBeyondTheFourth,
+            RulesTest::badBoundBeyondTheFourth,
+            RulesTest::clearLeavesNoRules,
+            RulesTest::clearOfFullRulesMakesRoom,
+            RulesTest::clearOfNoRules,
+            RulesTest::clearKeepsTheTable,
+            RulesTest::clearKeepsTheProof,
+            RulesTest::clearMakesNoProof);
         CHECK.end();
     }
 
@@ -203,9 +204,9 @@ public final class RulesTest {
     private static void boundBeyondTheFourth() {
         CHECK.sentence("Promise 3", "FULL when there are 4");
         TraceProver x = withFourBounds();
-        CHECK.due("a fifth bound of column 0", x.bound(0, 0, 1), TraceProver.FULL);
+        CHECK.due("a fifth bound of column 0", x.bound(0, 0, 0), TraceProver.FULL);
         CHECK.due("a fifth bound of column 1", x.bound(1, 7, 12288), TraceProver.FULL);
-        CHECK.due("a fifth bound that is met", x.bound(0, 0, 0), TraceProver.FULL);
+        CHECK.due("a fifth bound that is met", x.bound(0, 0, 1), TraceProver.FULL);
         CHECK.due("bounds full: wrong()", x.wrong(), TraceProver.NONE);
         CHECK.due("bounds full: prove()", x.prove(), 0);
         TraceProver four = withFourBounds();
@@ -318,8 +319,9 @@ public final class RulesTest {
         CHECK.due("alter(0, 1)", x.alter(0, 1), false);
     }
 
+    /** Terms that ask nothing. The cells differ, so that a proof by other terms opens other places and differs too. */
     private static TraceProver withSixTerms(int c) {
-        TraceProver x = new TraceProver();
+        TraceProver x = withCells();
         for (int n = 0; n < 6; n++) {
             x.term(c, 0, n % 5, 4);
         }
@@ -327,9 +329,18 @@ public final class RulesTest {
     }
 
     private static TraceProver withFourBounds() {
-        TraceProver x = new TraceProver();
+        TraceProver x = withCells();
         for (int n = 0; n < 4; n++) {
-            x.bound(n % 2, 2 * n, 0);
+            x.bound(n % 2, 2 * n, x.cell(n % 2, 2 * n));
+        }
+        return x;
+    }
+
+    private static TraceProver withCells() {
+        TraceProver x = new TraceProver();
+        for (int r = 0; r < 8; r++) {
+            x.set(0, r, 1000 * r + 1);
+            x.set(1, r, 12288 - r * r);
         }
         return x;
     }

@@ -3,21 +3,22 @@ public final class TableTest {
     private static final Check CHECK = new Check();
 
     public static void main(String[] args) {
-        setSetsOneCell();
-        setInNoColumn();
-        setInNoRow();
-        setToNoNumber();
-        setLeavesTheProof();
-        cellIsWhatWasSet();
-        cellOutside();
-        atKnownPoints();
-        atFollowsTheTable();
-        atOfNoColumn();
-        atNoPoint();
-        wrongIsTheLeastRow();
-        wrongRowOfTwoKinds();
-        wrongRowsOfBounds();
-        noRowIsWrong();
+        CHECK.run(
+            TableTest::setSetsOneCell,
+            TableTest::setInNoColumn,
+            TableTest::setInNoRow,
+            TableTest::setToNoNumber,
+            TableTest::setLeavesTheProof,
+            TableTest::cellIsWhatWasSet,
+            TableTest::cellOutside,
+            TableTest::atKnownPoints,
+            TableTest::atFollowsTheTable,
+            TableTest::atOfNoColumn,
+            TableTest::atNoPoint,
+            TableTest::wrongIsTheLeastRow,
+            TableTest::wrongRowOfTwoKinds,
+            TableTest::wrongRowsOfBounds,
+            TableTest::noRowIsWrong);
         CHECK.end();
     }
 

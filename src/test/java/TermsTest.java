@@ -9,28 +9,32 @@ public final class TermsTest {
     private static final int[] FOUR = {0, 4, 16, 20};
 
     public static void main(String[] args) {
-        lastOfTheCalls();
-        sumsAreReckonedInTheField();
-        differencesAreReckonedInTheField();
-        pointsAreThirtyTwo();
-        rowPointsAreEight();
-        cellsAreZeroAtFirst();
-        degreeIsAtMostSeven();
-        lettersAreTheRowAndTheRowBehind();
-        rowSevenHasNoRowBehind();
-        emptyConstraintIsKept();
-        boundsOfRowSevenCount();
-        pointsBehindGoRound();
-        openedPointsGoRound();
-        mixWraps();
-        treesHaveEveryLeaf();
-        pathsEndBelowTheRoot();
-        talkOfFewAndOfFullRules();
-        emptyConstraintIsNumbered();
-        drawsAreFreeOfTheSign();
-        positionsAreBelowSixteen();
-        layersAreHalved();
-        proofHas179Ints();
+        CHECK.run(
+            TermsTest::lastOfTheCalls,
+            TermsTest::sumsAreReckonedInTheField,
+            TermsTest::differencesAreReckonedInTheField,
+            TermsTest::pointsAreThirtyTwo,
+            TermsTest::rowPointsAreEight,
+            TermsTest::cellsAreZeroAtFirst,
+            TermsTest::degreeIsAtMostSeven,
+            TermsTest::lettersAreTheRowAndTheRowBehind,
+            TermsTest::rowSevenHasNoRowBehind,
+            TermsTest::emptyConstraintIsKept,
+            TermsTest::boundsOfRowSevenCount,
+            TermsTest::rulesUpToTheLastCount,
+            TermsTest::constraintsAreCountedToTheLast,
+            TermsTest::transcriptIsOneAtFirst,
+            TermsTest::pointsBehindGoRound,
+            TermsTest::openedPointsGoRound,
+            TermsTest::mixWraps,
+            TermsTest::treesHaveEveryLeaf,
+            TermsTest::pathsEndBelowTheRoot,
+            TermsTest::talkOfFewAndOfFullRules,
+            TermsTest::emptyConstraintIsNumbered,
+            TermsTest::drawsAreFreeOfTheSign,
+            TermsTest::positionsAreBelowSixteen,
+            TermsTest::layersAreHalved,
+            TermsTest::proofHas179Ints);
         CHECK.end();
     }
 
@@ -223,6 +227,59 @@ public final class TermsTest {
         x.set(0, 7, 0);
         x.set(1, 7, 0);
         CHECK.due("the third and fourth bound not met: wrong()", x.wrong(), 7);
+    }
+
+    /** Each term and each bound of full rules counts: with its number changed by 1, some row is wrong. */
+    private static void rulesUpToTheLastCount() {
+        CHECK.sentence("Terms, Promise 8", "up to 2 CONSTRAINTS, each with up to 6 TERMS .. up to 4 BOUNDS");
+        for (int changed = -1; changed < 16; changed++) {
+            TraceProver x = Samples.fullRules();
+            x.clear();
+            for (int t = 0; t < 12; t++) {
+                int[] term = Samples.FULL_TERMS[t];
+                int k = (term[1] + (t == changed ? 1 : 0)) % P;
+                CHECK.due("term " + t, x.term(term[0], k, term[2], term[3]), 1 + t % 6);
+            }
+            for (int b = 0; b < 4; b++) {
+                int[] bound = Samples.FULL_BOUNDS[b];
+                int v = (bound[2] + (12 + b == changed ? 1 : 0)) % P;
+                CHECK.due("bound " + b, x.bound(bound[0], bound[1], v), 1 + b);
+            }
+            int due = changed < 0 ? TraceProver.NONE : changed < 12 ? 0 : Samples.FULL_BOUNDS[changed - 12][1];
+            CHECK.due("rule " + changed + " changed: wrong()", x.wrong(), due);
+        }
+    }
+
+    private static void constraintsAreCountedToTheLast() {
+        CHECK.sentence("Terms, Promise 13", "There are as many constraints as have to be for all that have terms: 2 if constraint 1 has some");
+        TraceProver x = new TraceProver();
+        x.set(0, 7, 5);
+        x.bound(0, 7, 5);
+        dueTalk("none has terms: 0", x, 0, 1, 0, 7, 5);
+        x.clear();
+        x.term(0, 6, 2, 4);
+        dueTalk("constraint 0 has: 1", x, 1, 1, 6, 2, 4, 0);
+        x.clear();
+        x.term(1, 6, 2, 4);
+        dueTalk("constraint 1 has: 2", x, 2, 0, 1, 6, 2, 4, 0);
+        x.term(0, 0, 0, 0);
+        dueTalk("both have: 2", x, 2, 1, 0, 0, 0, 1, 6, 2, 4, 0);
+    }
+
+    private static void transcriptIsOneAtFirst() {
+        CHECK.sentence("Terms, Promises 9 and 12", "THE TRANSCRIPT is an int, 1 at first");
+        TraceProver x = Samples.provedFibonacci();
+        for (int n = 1; n <= 3; n++) {
+            CHECK.due("verify(), time " + n, x.verify(), 0);
+            CHECK.duePositions("time " + n, x, 8, 5, 4);
+        }
+        x.bound(0, 0, 1);
+        x.verify();
+        x.prove();
+        x.clear();
+        Samples.fibonacciRules(x);
+        CHECK.due("prove() behind talks of other rules", x.prove(), 0);
+        CHECK.dueProof("behind talks of other rules", x, Samples.fibonacciProof());
     }
 
     private static long over(long upper, long lower) {

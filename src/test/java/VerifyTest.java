@@ -7,29 +7,33 @@ public final class VerifyTest {
     private static final int[] PATHS = {7, 34, 46, 56};
 
     public static void main(String[] args) {
-        verifyWithoutProof();
-        verifyWithoutRules();
-        verifyWithOtherRules();
-        verifyLooksAtTheOpeningsAlone();
-        everyValueOutOfTheField();
-        rootsAndPathsAreAnyInts();
-        outOfTheFieldComesFirst();
-        everyOpeningAltered();
-        forgedComposition();
-        forgedFolds();
-        foldOfLayer0HasIndexJ();
-        foldOfLayer1HasIndexJ();
-        forgedValuesAgainstModel();
-        firstFaultIsTheCode();
-        positionsAreGoneThroughInOrder();
-        allIsSo();
-        positionOfTheLatest();
-        positionBeforeAnyVerify();
-        positionBehindNone();
-        positionBehindBad();
-        positionBehindOne();
-        positionBehindEachOtherCode();
-        positionOutside();
+        CHECK.run(
+            VerifyTest::verifyWithoutProof,
+            VerifyTest::verifyWithoutRules,
+            VerifyTest::verifyWithOtherRules,
+            VerifyTest::verifyLooksAtTheOpeningsAlone,
+            VerifyTest::everyValueOutOfTheField,
+            VerifyTest::rootsAndPathsAreAnyInts,
+            VerifyTest::outOfTheFieldComesFirst,
+            VerifyTest::pathsOfTheColumns,
+            VerifyTest::pathsOfLayer0,
+            VerifyTest::pathsOfLayer1,
+            VerifyTest::pathsOfLayer2,
+            VerifyTest::forgedComposition,
+            VerifyTest::foldOfLayer0HasIndexJ,
+            VerifyTest::foldOfLayer1HasIndexJ,
+            VerifyTest::foldOfLayer2IsTheRest,
+            VerifyTest::forgedValuesAgainstModel,
+            VerifyTest::firstFaultIsTheCode,
+            VerifyTest::positionsAreGoneThroughInOrder,
+            VerifyTest::allIsSo,
+            VerifyTest::positionOfTheLatest,
+            VerifyTest::positionBeforeAnyVerify,
+            VerifyTest::positionBehindNone,
+            VerifyTest::positionBehindBad,
+            VerifyTest::positionBehindOne,
+            VerifyTest::positionBehindEachOtherCode,
+            VerifyTest::positionOutside);
         CHECK.end();
     }
 
@@ -165,17 +169,41 @@ public final class VerifyTest {
         CHECK.due("and the first root spoilt", x.verify(), 1);
     }
 
-    private static void everyOpeningAltered() {
-        CHECK.sentence("Promise 12", "each of the four paths .. both paths of layer 0 .. of layer 1 .. of layer 2");
+    private static void pathsOfTheColumns() {
+        CHECK.sentence("Promise 12", "2: each of the four paths leads from its leaf to the first root");
+        dueWhereAltered(2, 3 * 4 * 7);
+    }
+
+    private static void pathsOfLayer0() {
+        CHECK.sentence("Promise 12", "3: both paths of layer 0 to the second");
+        dueWhereAltered(3, 3 * 2 * 6);
+    }
+
+    private static void pathsOfLayer1() {
+        CHECK.sentence("Promise 12", "5: both paths of layer 1 to the third root");
+        dueWhereAltered(5, 3 * 2 * 5);
+    }
+
+    private static void pathsOfLayer2() {
+        CHECK.sentence("Promise 12", "7: both paths of layer 2 to the fourth root");
+        dueWhereAltered(7, 3 * 2 * 4);
+    }
+
+    private static void dueWhereAltered(int code, int places) {
         int[] row = Samples.fibonacciProof();
+        int seen = 0;
         for (int i = 5; i < row.length; i++) {
-            TraceProver x = Samples.provedFibonacci();
-            x.alter(i, row[i] == 4321 ? 4322 : 4321);
-            CHECK.due("int " + i + " altered: verify()", x.verify(), codeOfPlace(i));
-            CHECK.duePositions("int " + i + " altered", x, 8, 5, 4);
-            x.alter(i, row[i]);
-            CHECK.due("int " + i + " as it was: verify()", x.verify(), 0);
+            if (codeOfPlace(i) == code) {
+                seen++;
+                TraceProver x = Samples.provedFibonacci();
+                x.alter(i, row[i] == 4321 ? 4322 : 4321);
+                CHECK.due("int " + i + " altered: verify()", x.verify(), code);
+                CHECK.duePositions("int " + i + " altered", x, 8, 5, 4);
+                x.alter(i, row[i]);
+                CHECK.due("int " + i + " as it was: verify()", x.verify(), 0);
+            }
         }
+        CHECK.due("ints under that code", seen, places);
     }
 
     /** A dishonest prover's hand that adds to the values first .. end - 1 of one stage. */
@@ -222,12 +250,16 @@ public final class VerifyTest {
         CHECK.due("a wrong table, composed as the rules ask", codeOf("wrong table", model, row) > 4, true);
     }
 
-    private static void forgedFolds() {
-        CHECK.sentence("Promise 12", "6: .. 8: .. 9: what layer 2's are folded to is the rest");
+    private static void foldOfLayer2IsTheRest() {
+        CHECK.sentence("Promise 12", "9: what layer 2's are folded to is the rest");
         Model model = Samples.fibonacciModel();
-        CHECK.due("layer 1 forged", codeOf("layer 1", model, model.forge(addToAll(1))), 6);
-        CHECK.due("layer 2 forged", codeOf("layer 2", model, model.forge(addToAll(2))), 8);
         CHECK.due("the rest forged", codeOf("the rest", model, model.forge(addToAll(Model.REST))), 9);
+        Model.Tamper least = (stage, values) -> {
+            if (stage == Model.REST) {
+                values[0] = 0;
+            }
+        };
+        CHECK.due("the rest forged to 0", codeOf("the rest of 0", model, model.forge(least)), 9);
     }
 
     private static void foldOfLayer0HasIndexJ() {
@@ -243,6 +275,7 @@ public final class VerifyTest {
     /** Only an index in the first half can tell that this half is forged: all behind it was made of it. */
     private static void dueFoldedHalf(int layer, int size, int code) {
         Model model = Samples.fibonacciModel();
+        CHECK.due("layer " + layer + " forged whole", codeOf("layer " + layer, model, model.forge(addToAll(layer))), code);
         boolean[] seen = new boolean[size];
         for (int delta = 1; delta <= 150; delta++) {
             TraceProver x = holding(model.forge(addTo(layer, delta, 0, size / 2)));
